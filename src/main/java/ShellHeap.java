@@ -483,10 +483,6 @@ public final class ShellHeap {
             return true;
         }
 
-        int numberInHand() {
-            return numberFrom(start);
-        }
-
         /** The number right behind a letter that begins the TOKEN in hand; NONE if it is not made so. */
         int numberBehind(char letter) {
             if (sort != WORD || end - start < 2 || byteAt(start) != letter || !isDigit(byteAt(start + 1))) {
@@ -495,7 +491,8 @@ public final class ShellHeap {
             return numberFrom(start + 1);
         }
 
-        private int numberFrom(int from) {
+        /** The number whose digits go from a place to the end of the TOKEN in hand. */
+        int numberFrom(int from) {
             int number = 0;
             for (int i = from; i < end; i++) {
                 number = Math.min(number * 10 + byteAt(i) - '0', HUGE);
@@ -1061,7 +1058,7 @@ public final class ShellHeap {
             if (tape.sort != Tape.NUMBER) {
                 return tape.fail(Tape.CANT_STAND);
             }
-            int number = tape.numberInHand();
+            int number = tape.numberFrom(tape.start);
             if (number > GREATEST) {
                 return tape.fail(Tape.TOO_MUCH);
             }
@@ -1453,7 +1450,7 @@ public final class ShellHeap {
         }
 
         private boolean takeNumber() {
-            int number = tape.numberInHand();
+            int number = tape.numberFrom(tape.start);
             if (number > GREATEST) {
                 return tape.fail(Tape.TOO_MUCH);
             }

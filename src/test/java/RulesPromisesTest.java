@@ -17,6 +17,7 @@ final class RulesPromisesTest {
         test.binding();
         test.limits();
         test.values();
+        test.daysOfTwentyThousand();
         test.ahead();
         test.noValues();
         test.why();
@@ -259,6 +260,8 @@ final class RulesPromisesTest {
         worth("0-1000*1000*1000*1000*1000", -1000000000000000L);
         worth("0-1000*1000*1000*1000*1000-1", NO);
         worth("1000*1000*1000*1000*1000-1", 999999999999999L);
+        worth("1000*1000*1000*1000*1000-1+1", 1000000000000000L);
+        worth("0-1000*1000*1000*1000*1000+1-1", -1000000000000000L);
         worth("99999*99999*99999", 999970000299999L);
         worth("99999*99999*99999*2", NO);
         worth("(1000*1000*1000*1000*1000)*(1000*1000*1000*1000*1000)", NO);
@@ -318,6 +321,16 @@ final class RulesPromisesTest {
         value("number", 1, 200);
         value("food", 1, 400 * 999 + 100);
         value("days", 1, (400 * 999 + 100) / 20000);
+    }
+
+    private void daysOfTwentyThousand() {
+        ShellHeap x = Desks.withLayers(2);
+        x.kind(100, 1);
+        Texts.rules(x, "cause a: days;");
+        Texts.finds(x, "k0 s0: whole 200", 0);
+        Texts.finds(x, "k0 s0: whole 199", 1);
+        checks.due("26: 20000 are one day", x.cause(0, 0), 1);
+        checks.due("26: 19900 are none", x.cause(0, 1), 0);
     }
 
     private void ahead() {

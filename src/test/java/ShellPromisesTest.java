@@ -238,7 +238,9 @@ final class ShellPromisesTest {
         checks.due("18: lost 2 of 7", x.eaten(0, 0, 3), 285);
         Texts.finds(x, "k1 s1: gnawed 0", 1);
         checks.due("18: lost of none", x.eaten(1, 0, 3), 0);
-        Texts.finds(x, "k1 s1: gnawed 5", 1);
+        Texts.finds(x, "k1 s1: gnawed 1", 1);
+        checks.due("18: lost one of one", x.eaten(1, 0, 3), 1000);
+        Texts.finds(x, "k1 s1: gnawed 4", 1);
         checks.due("18: lost all", x.eaten(1, 0, 3), 1000);
         x.note(2, 0, 1, 0);
         checks.due("18: lost of the bed", x.eaten(1, 0, 3), 7 * 1000 / 12);
