@@ -14,6 +14,7 @@ final class HeapEdgesTest {
         test.nearestOfSeveral();
         test.holdsOfBeds();
         test.leastAndGreatest();
+        test.leastAndGreatestOfMaps();
         test.leastAndGreatestOfTen();
         test.heapCall();
         test.columnCall();
@@ -108,8 +109,7 @@ final class HeapEdgesTest {
             edges.due("layer " + i + " is in it alone", x.thick(i, i, 1), true);
         }
         for (int i = 0; i < columns.length; i++) {
-            int cells = String.join("", rows).replaceAll("[^" + i + "]", "").length();
-            edges.due("cells of column " + i + " in " + String.join(" ", rows), x.holds(i, 0), cells);
+            edges.due("cells of column " + i + " in " + String.join(" ", rows), x.holds(i, 0), cellsOf(i, rows));
         }
     }
 
@@ -181,6 +181,39 @@ final class HeapEdgesTest {
         edges.due("holds of " + layer, x.holds(layer, 0), holds);
         edges.due("least of " + layer, x.holds(layer, 1), least);
         edges.due("greatest of " + layer, x.holds(layer, 2), greatest);
+    }
+
+    /** The maps are those with all columns, without column 0, without column 1 and so on. */
+    private void maps(int[][] columns, String[]... maps) {
+        ShellHeap x = Desks.withLayers(columns.length);
+        x.heap(maps[0][0].length(), maps[0].length);
+        for (int i = 0; i < columns.length; i++) {
+            x.column(columns[i][0], columns[i][1]);
+            x.thick(i, i, 1);
+        }
+        for (int i = 0; i < columns.length; i++) {
+            int least = Edges.MAX;
+            int greatest = 0;
+            for (int out = 0; out < columns.length; out++) {
+                int cells = cellsOf(i, maps[out + 1]);
+                least = Math.min(least, cells);
+                greatest = Math.max(greatest, cells);
+            }
+            held(x, i, cellsOf(i, maps[0]), least, greatest);
+        }
+    }
+
+    private static int cellsOf(int column, String... rows) {
+        return String.join("", rows).replaceAll("[^" + column + "]", "").length();
+    }
+
+    private void leastAndGreatestOfMaps() {
+        maps(new int[][] {{2, 1}, {0, 0}, {4, 2}}, new String[] {"11002", "10002", "10022"},
+                new String[] {"11122", "11122", "11222"}, new String[] {"00002", "00002", "00022"},
+                new String[] {"11000", "10000", "10000"});
+        maps(new int[][] {{0, 0}, {2, 0}, {5, 0}, {3, 1}}, new String[] {"001122", "001332"},
+                new String[] {"111122", "111332"}, new String[] {"003322", "003332"},
+                new String[] {"001133", "001333"}, new String[] {"001122", "001122"});
     }
 
     /** Ten columns along a row of 10 by 2 cells: the cells of one left out go to the one ahead, of the first to the next. */

@@ -16,7 +16,9 @@ final class RulesEdgesTest {
         test.orAndNot();
         test.comparisons();
         test.sums();
+        test.binding();
         test.parts();
+        test.deepest();
         test.names();
         test.numbers();
         test.wordsAndDigits();
@@ -30,6 +32,7 @@ final class RulesEdgesTest {
         test.titlesTwice();
         test.rulesCall();
         test.rulesRefused();
+        test.rulesAnew();
         test.edges.end();
     }
 
@@ -163,6 +166,60 @@ final class RulesEdgesTest {
             }
             good(text + "(not 1);");
         }
+    }
+
+    private void worth(String text, long due) {
+        ShellHeap x = Desks.withLayers(1);
+        edges.due("\"" + text + "\" is read", Texts.rules(x, e(text)), 1);
+        edges.due(text, x.cause(0, 0), due);
+    }
+
+    /** What binds more tightly is worked out ahead, what binds alike from the left on. */
+    private void binding() {
+        worth("1 or 1 and 0", 1);
+        worth("0 and 0 or 1", 1);
+        worth("(1 or 1) and 0", 0);
+        worth("0 and (0 or 1)", 0);
+        worth("not 0 and 0", 0);
+        worth("not (0 and 0)", 1);
+        worth("not 1 or 1", 1);
+        worth("not (1 or 1)", 0);
+        worth("not 1 < 1", 1);
+        worth("(not 1) < 1", 1);
+        worth("not 2 = 1", 1);
+        worth("(not 2) = 1", 0);
+        worth("2 = 1 + 1", 1);
+        worth("(2 = 1) + 1", 1);
+        worth("3 < 1 + 1", 0);
+        worth("2 and 1 = 1", 1);
+        worth("2 = 2 and 2", 1);
+        worth("1 + 2 * 3", 7);
+        worth("2 * 3 + 1", 7);
+        worth("8 - 4 / 2", 6);
+        worth("9 - 4 - 2", 3);
+        worth("9 - (4 - 2)", 7);
+        worth("9 - 4 + 2", 7);
+        worth("16 / 4 / 2", 2);
+        worth("16 / (4 / 2)", 8);
+        worth("16 / 4 * 2", 8);
+        worth("7 * 3 / 2", 10);
+        worth("3 / 2 * 7", 7);
+    }
+
+    /** As much as may wait for its right side: 95 knots and eight open, and each of them is worked out. */
+    private void deepest() {
+        for (int nots = 80; nots <= 95; nots++) {
+            worth("not ".repeat(nots) + "1", (nots + 1) % 2);
+            worth("(".repeat(8) + "not ".repeat(nots) + "1" + ")".repeat(8), (nots + 1) % 2);
+            worth("not ".repeat(nots) + "(".repeat(8) + "1" + ")".repeat(8), (nots + 1) % 2);
+        }
+        worth("1" + "+1".repeat(47), 48);
+        worth("1" + "-1".repeat(47), -46);
+        worth("1-(".repeat(8) + "1" + ")".repeat(8), 1);
+        worth("1-(".repeat(7) + "1" + ")".repeat(7), 0);
+        worth("1 or 0 and 1<1+1*(".repeat(8) + "1" + ")".repeat(8), 1);
+        worth("0 or 1 and 1<1+1*(".repeat(8) + "1" + ")".repeat(8), 1);
+        worth("0 or 1 and 1<0+1*(".repeat(8) + "1" + ")".repeat(8), 0);
     }
 
     private void comparisons() {
@@ -499,5 +556,30 @@ final class RulesEdgesTest {
         Texts.feed(full, longest);
         edges.due("n 701", full.rules(701), -2);
         edges.due("n 700", full.rules(700), 6);
+    }
+
+    /** Whatever a text left open, or told ahead of its fault, is nothing to the next text. */
+    private void rulesAnew() {
+        edges.sentence("are the RULES: how many CAUSES; NONE with a FAULT;");
+        ShellHeap x = Desks.withLayers(1);
+        for (String spoilt : List.of("cause a:((((((((", "cause a:1+2*(not 3", "cause a:not not not", "cause a:1<2 and 3-", "cause a:1;cause b",
+                "cause b:1;cause b:", "cause a:1/0;cause c:then", "cause a:" + "not ".repeat(96), tied(96) + "1", causes(6) + "cause")) {
+            edges.due("\"" + spoilt + "\"", Texts.rules(x, spoilt), -1);
+            edges.due("the next text", Texts.rules(x, "cause b:((((((((5-3-1))))))));cause a:not 0;"), 2);
+            edges.due("its knots", x.count(7), 7);
+            edges.due("its first cause", x.cause(0, 0), 1);
+            edges.due("its second cause", x.cause(1, 0), 1);
+            edges.due("no third", x.cause(2, 0), Long.MIN_VALUE);
+        }
+        ShellHeap y = Desks.withLayers(1);
+        for (int round = 0; round < 4; round++) {
+            edges.due("96 knots again", Texts.rules(y, tied(96)), 1);
+            edges.due("are 96", y.count(7), 96);
+            edges.due("six causes again", Texts.rules(y, causes(6)), 6);
+            edges.due("have 6 knots", y.count(7), 6);
+            edges.due("the last of them", y.cause(5, 0), 1);
+            edges.due("none again", y.rules(0), 0);
+            edges.due("have none", y.count(7), 0);
+        }
     }
 }

@@ -1,3 +1,5 @@
+import java.util.Random;
+
 /** The edges of "==== 4." and of promises 20 to 23: readers, readings, seasons put right and stays. */
 final class SeasonEdgesTest {
     private static final int ONE = 2;
@@ -16,6 +18,7 @@ final class SeasonEdgesTest {
         test.asManyAsReadings();
         test.leastSum();
         test.leastSumAtTheEnds();
+        test.leastSumOfAll();
         test.firstOfSeveral();
         test.miss();
         test.stays();
@@ -247,6 +250,43 @@ final class SeasonEdgesTest {
             pair(low, 7, 9, 0, 0, 2 * 63 * 63);
             pair(low, 7, 0, 9, 9, 2 * 63 * 63);
         }
+    }
+
+    /** Rows that are almost alike, or any, with as many readings as may be: told as by trying all numbers there are. */
+    private void leastSumOfAll() {
+        for (int seed = 0; seed < 400; seed++) {
+            Random random = new Random(seed);
+            ShellHeap x = Desks.withLayers(1);
+            PlainDesk plain = new PlainDesk();
+            plain.layer();
+            for (int season = 0; season < 4; season++) {
+                int[] row = seed % 2 == 0 ? almostAlike(random) : any(random);
+                edges.due("a row", reads(x, 1, season, row), plain.reads(1, season, row[0], row[1], row[2], row[3]));
+            }
+            int times = 1 + random.nextInt(3);
+            for (int i = 0; i < times; i++) {
+                int[] told = {random.nextInt(8), random.nextInt(4), random.nextInt(4), random.nextInt(8)};
+                edges.due("readings", x.readings(0, 1, told[0], told[1], told[2], told[3]), plain.readings(0, 1, told[0], told[1], told[2], told[3]));
+            }
+            for (int what = 0; what <= 4; what++) {
+                edges.due("seed " + seed + ", what " + what, x.season(0, 1, what), plain.season(0, 1, what));
+            }
+        }
+    }
+
+    private static int[] almostAlike(Random random) {
+        int[] row = {4, 4, 4, 4};
+        row[random.nextInt(4)]++;
+        row[random.nextInt(4)]--;
+        return row;
+    }
+
+    private static int[] any(Random random) {
+        int[] row = new int[4];
+        for (int i = 0; i < 16; i++) {
+            row[random.nextInt(random.nextBoolean() ? 4 : 2)]++;
+        }
+        return row;
     }
 
     private void firstOfSeveral() {
