@@ -44,30 +44,7 @@ final class CauseEdgesTest {
         edges.due(text, worth(Desks.withLayers(1), text, 0), due);
     }
 
-    /** Layers 1 and 2 are one and lie over layer 0; every value of both beds is another number. */
-    private static ShellHeap filled() {
-        ShellHeap x = Desks.withLayers(3);
-        x.note(OVER, 1, 0, 0);
-        x.note(ONE, 2, 1, 0);
-        x.heap(2, 2);
-        x.column(0, 0);
-        x.column(1, 1);
-        x.thick(0, 0, 5);
-        x.thick(0, 1, 7);
-        x.thick(1, 2, 100);
-        x.kind(999, 2);
-        x.kind(100, 1);
-        x.kept(0, 0, 8);
-        Texts.finds(x, "k0 s0: whole 200, gnawed 50; k1 s0: left 1", 1);
-        Texts.finds(x, "k0 s0: whole 20, gnawed 5; k1 s0: left 2", 0);
-        x.measure(0, 60, 10, 30);
-        x.measure(1, 50, 8, 31);
-        x.readings(1, 0, 1, 0, 2, 0);
-        x.readings(2, 1, 0, 0, 0, 1);
-        x.readings(0, 1, 0, 0, 0, 1);
-        return x;
-    }
-
+    /** The values of both beds of Desks.ofTwoBeds(), in the order of their names. */
     private static final long[] OWN = {50, 8, 31, 19, 3, 1, 199, 121, 200, 399700};
     private static final long[] AHEAD = {60, 10, 30, 2, 1, 0, 185, 15, 20, 40160};
 
@@ -76,14 +53,14 @@ final class CauseEdgesTest {
         for (int i = 0; i < 10; i++) {
             String own = PlainTexts.NAMES.get(i);
             for (int layer = 1; layer <= 2; layer++) {
-                edges.due(own, worth(filled(), own, layer), OWN[i]);
-                edges.due("then " + own, worth(filled(), "then " + own, layer), AHEAD[i]);
+                edges.due(own, worth(Desks.ofTwoBeds(), own, layer), OWN[i]);
+                edges.due("then " + own, worth(Desks.ofTwoBeds(), "then " + own, layer), AHEAD[i]);
             }
-            edges.due(own + " of the lower bed", worth(filled(), own, 0), AHEAD[i]);
+            edges.due(own + " of the lower bed", worth(Desks.ofTwoBeds(), own, 0), AHEAD[i]);
             for (int j = 0; j < 10; j++) {
                 String then = PlainTexts.NAMES.get(j);
-                edges.due(own + " and then " + then, worth(filled(), own + "-then " + then, 2), OWN[i] - AHEAD[j]);
-                edges.due(own + " and " + then, worth(filled(), own + "-" + then, 2), OWN[i] - OWN[j]);
+                edges.due(own + " and then " + then, worth(Desks.ofTwoBeds(), own + "-then " + then, 2), OWN[i] - AHEAD[j]);
+                edges.due(own + " and " + then, worth(Desks.ofTwoBeds(), own + "-" + then, 2), OWN[i] - OWN[j]);
             }
         }
     }

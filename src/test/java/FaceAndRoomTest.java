@@ -96,18 +96,18 @@ final class FaceAndRoomTest {
         long me = Thread.currentThread().getId();
         long sum = 0;
         ShellHeap first = new ShellHeap();
-        for (int i = 0; i < 20; i++) {
+        for (int i = 0; i < 12; i++) {
             sum += callAll(first, i);
         }
         ShellHeap x = new ShellHeap();
         long before = threads.getThreadAllocatedBytes(me);
         long unused = threads.getThreadAllocatedBytes(me) - before;
         before = threads.getThreadAllocatedBytes(me);
-        for (int i = 0; i < 20; i++) {
+        for (int i = 0; i < 12; i++) {
             sum += callAll(x, i);
         }
         long made = threads.getThreadAllocatedBytes(me) - before - unused;
-        checks.due("bytes made by 20 rounds of all calls (sum " + sum + ") are none", made, 0);
+        checks.due("bytes made by 12 rounds of all calls (sum " + sum + ") are none", made, 0);
         before = threads.getThreadAllocatedBytes(me);
         ShellHeap one = new ShellHeap();
         made = threads.getThreadAllocatedBytes(me) - before - unused;

@@ -173,26 +173,14 @@ final class FindsEdgesTest {
         fault("k0s0:whole +1", 1, 11);
     }
 
-    private static String with(String ahead, int sign, String behind) {
-        return ahead + (char) sign + behind;
-    }
-
-    private static boolean isDigit(int sign) {
-        return sign >= '0' && sign <= '9';
-    }
-
-    private static boolean isSmall(int sign) {
-        return sign >= 'a' && sign <= 'z';
-    }
-
     /** Every byte there is between two tokens that could stand without one. */
     private void blanks() {
         edges.sentence("Blanks 10, 32.");
         for (int sign = 0; sign < 256; sign++) {
-            String text = with("k0", sign, "s0:left 1");
-            if (sign == 10 || sign == 32 || sign == '0') {
+            String text = Signs.between("k0", sign, "s0:left 1");
+            if (Signs.isBlank(sign) || sign == '0') {
                 good(text);
-            } else if (isDigit(sign)) {
+            } else if (Signs.isDigit(sign)) {
                 fault(text, 2, 0);
             } else {
                 fault(text, 1, 2);
@@ -205,27 +193,27 @@ final class FindsEdgesTest {
     private void tokensBehindWords() {
         edges.sentence("Words and what begins with k, s: small letters and then digits in a row; N digits.");
         for (int sign = 0; sign < 256; sign++) {
-            String text = with("k0s0:left", sign, "1");
-            if (sign == 10 || sign == 32) {
+            String text = Signs.between("k0s0:left", sign, "1");
+            if (Signs.isBlank(sign)) {
                 good(text);
             } else {
-                fault(text, 1, isSmall(sign) || isDigit(sign) ? 5 : 9);
+                fault(text, 1, Signs.isSmall(sign) || Signs.isDigit(sign) ? 5 : 9);
             }
-            String first = with("", sign, "0s0:left 1");
+            String first = Signs.between("", sign, "0s0:left 1");
             if (sign == 'k') {
                 good(first);
             } else {
-                fault(first, 1, sign == 10 || sign == 32 ? 1 : 0);
+                fault(first, 1, Signs.isBlank(sign) ? 1 : 0);
             }
         }
     }
 
     private void tokensBehindNumbers() {
         for (int sign = 0; sign < 256; sign++) {
-            String text = with("k0s0:left 1", sign, "");
-            if (sign == 10 || sign == 32 || sign == ';') {
+            String text = Signs.between("k0s0:left 1", sign, "");
+            if (Signs.isBlank(sign) || sign == ';') {
                 good(text);
-            } else if (isDigit(sign)) {
+            } else if (Signs.isDigit(sign)) {
                 edges.due("digits in a row", good(text, 1).eaten(0, 0, 0), 10 + sign - '0');
             } else {
                 fault(text, 1, sign == ',' ? 12 : 11);

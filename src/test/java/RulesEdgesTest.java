@@ -315,22 +315,6 @@ final class RulesEdgesTest {
         fault(e("1.5"), 1, 9);
     }
 
-    private static String with(String ahead, int sign, String behind) {
-        return ahead + (char) sign + behind;
-    }
-
-    private static boolean isDigit(int sign) {
-        return sign >= '0' && sign <= '9';
-    }
-
-    private static boolean isSmall(int sign) {
-        return sign >= 'a' && sign <= 'z';
-    }
-
-    private static boolean isBlank(int sign) {
-        return sign == 10 || sign == 32;
-    }
-
     private void wordsAndDigits() {
         edges.sentence("Words here are small letters alone (a digit right behind begins another TOKEN).");
         fault("cause a1:1;", 1, 7);
@@ -342,17 +326,17 @@ final class RulesEdgesTest {
         good(e("1and size or 2"));
         fault(e("1andsize"), 1, 9);
         for (int sign = 0; sign < 256; sign++) {
-            String title = with("cause a", sign, ":1;");
-            if (isSmall(sign) || isBlank(sign)) {
+            String title = Signs.between("cause a", sign, ":1;");
+            if (Signs.isSmall(sign) || Signs.isBlank(sign)) {
                 good(title);
             } else {
                 fault(title, 1, sign == ':' ? 8 : 7);
             }
-            String cause = with("cause", sign, "a:1;");
-            if (isBlank(sign)) {
+            String cause = Signs.between("cause", sign, "a:1;");
+            if (Signs.isBlank(sign)) {
                 good(cause);
             } else {
-                fault(cause, 1, isSmall(sign) ? 0 : 5);
+                fault(cause, 1, Signs.isSmall(sign) ? 0 : 5);
             }
         }
     }
@@ -360,14 +344,14 @@ final class RulesEdgesTest {
     private void blanksAndSigns() {
         edges.sentence("Blanks likewise; a = or > right behind < or > belongs to it.");
         for (int sign = 0; sign < 256; sign++) {
-            String text = with("cause a:1", sign, "2;");
-            if (isDigit(sign) || "+-*/<=>".indexOf(sign) >= 0) {
+            String text = Signs.between("cause a:1", sign, "2;");
+            if (Signs.isDigit(sign) || "+-*/<=>".indexOf(sign) >= 0) {
                 good(text);
             } else {
-                fault(text, 1, isBlank(sign) || sign == ';' ? 10 : 9);
+                fault(text, 1, Signs.isBlank(sign) || sign == ';' ? 10 : 9);
             }
-            String first = with("", sign, "cause a:1;");
-            if (isBlank(sign)) {
+            String first = Signs.between("", sign, "cause a:1;");
+            if (Signs.isBlank(sign)) {
                 good(first);
             } else {
                 fault(first, 1, 0);

@@ -277,31 +277,8 @@ final class RulesPromisesTest {
         worth("1/0*0", NO);
     }
 
-    /** Layer 1 lies on layer 0, and layer 2 is one with 1. */
-    private ShellHeap filled() {
-        ShellHeap x = Desks.withLayers(3);
-        x.note(0, 1, 0, 0);
-        x.note(2, 2, 1, 0);
-        x.heap(2, 2);
-        x.column(0, 0);
-        x.thick(0, 0, 5);
-        x.thick(0, 1, 7);
-        x.thick(0, 2, 1);
-        x.kind(999, 2);
-        x.kind(100, 1);
-        x.kept(0, 0, 8);
-        Texts.finds(x, "k0 s0: whole 200, gnawed 50; k1 s0: left 1", 1);
-        Texts.finds(x, "k0 s0: whole 20, gnawed 5; k1 s0: left 1", 0);
-        x.measure(0, 60, 10, 30);
-        x.measure(1, 50, 8, 31);
-        x.readings(1, 0, 1, 0, 2, 0);
-        x.readings(2, 1, 0, 0, 0, 1);
-        x.readings(0, 1, 0, 0, 0, 1);
-        return x;
-    }
-
     private void value(String text, int layer, long due) {
-        ShellHeap x = filled();
+        ShellHeap x = Desks.ofTwoBeds();
         checks.due("3: \"" + text + "\"", Texts.rules(x, "cause a:" + text + ";"), 1);
         checks.due("26: " + text + " of layer " + layer, x.cause(0, layer), due);
     }
@@ -317,7 +294,7 @@ final class RulesPromisesTest {
         value("rank", 2, 1);
         value("rank", 0, 0);
         value("lost", 1, 50 * 1000 / 251);
-        value("holds", 1, 4 * 8);
+        value("holds", 1, 3 * 7 + 100);
         value("number", 1, 200);
         value("food", 1, 400 * 999 + 100);
         value("days", 1, (400 * 999 + 100) / 20000);
@@ -339,11 +316,11 @@ final class RulesPromisesTest {
         value("then growth", 1, 30);
         value("then season", 1, 1);
         value("then rank", 2, 0);
-        value("then lost", 1, 5 * 1000 / 26);
-        value("then holds", 1, 20);
+        value("then lost", 1, 5 * 1000 / 27);
+        value("then holds", 1, 15);
         value("then number", 1, 20);
-        value("then food", 1, 40 * 999 + 100);
-        value("then days", 1, (40 * 999 + 100) / 20000);
+        value("then food", 1, 40 * 999 + 200);
+        value("then days", 1, (40 * 999 + 200) / 20000);
         value("size - then size", 1, -10);
         value("then size", 0, NO);
         value("1 or then size", 0, NO);
